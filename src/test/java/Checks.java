@@ -1,0 +1,81 @@
+/** What the tests share: counting of answers that are not as due. */
+final class Checks {
+    interface Call {
+        long answer();
+    }
+
+    interface Act {
+        void run();
+    }
+
+    private int made = 0;
+    private int wrong = 0;
+
+    void equal(String what, long got, long due) {
+        made++;
+        if (got != due) {
+            wrong++;
+            System.out.println(what + " answered " + got + ", due is " + due);
+        }
+    }
+
+    void equal(String what, String got, String due) {
+        made++;
+        if (!got.equals(due)) {
+            wrong++;
+            System.out.println(what + " answered " + got + ", due is " + due);
+        }
+    }
+
+    /** The class must be the very one: IndexOutOfBounds from an array would be a class of its own. */
+    void fails(String what, Class<? extends RuntimeException> due, Act act) {
+        equal(what, outcome(() -> {
+            act.run();
+            return 0;
+        }), "throws." + due.getSimpleName());
+    }
+
+    static String outcome(Call call) {
+        try {
+            return Long.toString(call.answer());
+        } catch (RuntimeException e) {
+            return "throws." + e.getClass().getSimpleName();
+        }
+    }
+
+    /** Everything that can be seen of an object, so that two states can be held against each other. */
+    static String sight(SolidFolder x) {
+        StringBuilder text = new StringBuilder();
+        for (int k = 0; k < x.files(); k++) {
+            text.append((char) x.about(k, false)).append(x.about(k, true)).append('(');
+            for (int i = 0; i < x.about(k, true); i++) {
+                text.append(String.format("%02x", x.at(k, i)));
+            }
+            text.append(')');
+        }
+        return text.append(" / ").append(archive(x)).toString();
+    }
+
+    static String archive(SolidFolder x) {
+        StringBuilder text = new StringBuilder();
+        for (int k = 0; k < x.length(); k++) {
+            text.append(String.format("%02x", x.byteAt(k)));
+        }
+        return text.toString();
+    }
+
+    static SolidFolder withArchive(String hex) {
+        SolidFolder x = new SolidFolder();
+        for (int k = 0; k < hex.length(); k += 2) {
+            x.put(Integer.parseInt(hex.substring(k, k + 2), 16), 1);
+        }
+        return x;
+    }
+
+    void end() {
+        System.out.println(made - wrong + " of " + made + " answers are as due");
+        if (wrong != 0) {
+            System.exit(1);
+        }
+    }
+}
