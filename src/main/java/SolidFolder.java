@@ -679,26 +679,23 @@ public final class SolidFolder {
                 int[] row = given[coder];
                 int size = graph.gives[coder];
                 int parameter = graph.parameters[coder];
-                int before = streams.size;
-                switch (graph.kinds[coder]) {
-                    case COPY:
-                        streams.addAll(row, size);
-                        graph.streamSizes[stream] = size;
-                        break;
-                    case REPEATS:
+                int kind = graph.kinds[coder];
+                if (kind == JOIN) {
+                    split(row, size, given[coder + 1], given[coder + 2]);
+                } else if (kind == DELTA || kind == BRANCH) {
+                    System.arraycopy(row, 0, given[coder + 1], 0, size);
+                    unfilter(kind, parameter, given[coder + 1], size);
+                } else {
+                    int before = streams.size;
+                    if (kind == REPEATS) {
                         putter.start();
                         repeats.codeAll(putter, row, size, parameter);
                         putter.finish(streams);
-                        graph.streamSizes[stream] = streams.size - before;
-                        stream++;
-                        break;
-                    case JOIN:
-                        split(row, size, given[coder + 1], given[coder + 2]);
-                        break;
-                    default:
-                        System.arraycopy(row, 0, given[coder + 1], 0, size);
-                        unfilter(graph.kinds[coder], parameter, given[coder + 1], size);
-                        break;
+                    } else {
+                        streams.addAll(row, size);
+                    }
+                    graph.streamSizes[stream] = streams.size - before;
+                    stream++;
                 }
             }
         }
