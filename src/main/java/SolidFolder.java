@@ -296,14 +296,14 @@ public final class SolidFolder {
         int four(int from) {
             int v = 0;
             for (int k = 0; k < 4 && from + k < bytes.length; k++) {
-                v |= bytes[from + k] << 8 * k;
+                v |= bytes[from + k] << (8 * k);
             }
             return v;
         }
 
         void setFour(int from, int v) {
             for (int k = 0; k < 4 && from + k < bytes.length; k++) {
-                bytes[from + k] = v >>> 8 * k & 255;
+                bytes[from + k] = v >>> (8 * k) & 255;
             }
         }
     }
@@ -316,7 +316,7 @@ public final class SolidFolder {
         int place;
         int end;
         boolean failed;
-        private int[] bytes;
+        private int[] bytes = new int[0];
 
         void lookAt(int[] row, int from, int to) {
             bytes = row;
@@ -326,7 +326,7 @@ public final class SolidFolder {
         }
 
         int next() {
-            if (bytes == null || place >= end) {
+            if (place >= end) {
                 failed = true;
                 return 0;
             }
@@ -666,7 +666,7 @@ public final class SolidFolder {
                 branch(row, size, -1);
             } else if (kind == DELTA) {
                 for (int k = distance; k < size; k++) {
-                    row[k] = row[k] + row[k - distance] & 255;
+                    row[k] = (row[k] + row[k - distance]) & 255;
                 }
             }
         }
@@ -716,7 +716,7 @@ public final class SolidFolder {
             } else {
                 // From the end on, as what stands before a byte is still that of the files then.
                 for (int k = size - 1; k >= distance; k--) {
-                    row[k] = row[k] - row[k - distance] & 255;
+                    row[k] = (row[k] - row[k - distance]) & 255;
                 }
             }
         }
@@ -739,7 +739,7 @@ public final class SolidFolder {
 
     /** Where the bytes of one input stand. */
     private static final class Input {
-        int[] bytes;
+        int[] bytes = new int[0];
         int from;
         int size;
     }
@@ -876,7 +876,7 @@ public final class SolidFolder {
     }
 
     private static final class BitTaker extends BitCoder {
-        private int[] bytes;
+        private int[] bytes = new int[0];
         private int place;
         private int end;
         private long value;
@@ -983,7 +983,7 @@ public final class SolidFolder {
         private int lc;
         private int lp;
         private int pb;
-        private int[] bytes;
+        private int[] bytes = new int[0];
         private int size;
         private int place;
         // What comes at the place.
@@ -999,7 +999,7 @@ public final class SolidFolder {
                 if (bits.puts) {
                     choose();
                 }
-                int p = place & (1 << pb) - 1;
+                int p = place & ((1 << pb) - 1);
                 kind = codeKind(bits, p);
                 if (kind == BYTE) {
                     codeByte(bits);
@@ -1054,7 +1054,7 @@ public final class SolidFolder {
 
         private void codeByte(BitCoder bits) {
             int before = place > 0 ? bytes[place - 1] : 0;
-            int family = ((place & (1 << lp) - 1) << lc) + (before >> 8 - lc);
+            int family = ((place & ((1 << lp) - 1)) << lc) + (before >> (8 - lc));
             int base = FAMILIES + family * FAMILY;
             // A state from 7 on comes behind a repeat, so r0 is not above the place.
             boolean alike = state >= 7 && latest[0] <= place;
@@ -1092,7 +1092,7 @@ public final class SolidFolder {
                 return slot;
             }
             int n = slot / 2;
-            long v = (long) (2 + slot % 2) << n - 1;
+            long v = (long) (2 + slot % 2) << (n - 1);
             if (slot < 14) {
                 return v + bits.turnedTree(SLOT_BITS + (slot - 4) * 32, n - 1, (int) y);
             }
@@ -1107,10 +1107,10 @@ public final class SolidFolder {
                 return (int) y;
             }
             int n = 2;
-            while (n < 31 && y >> n + 1 != 0) {
+            while (n < 31 && y >> (n + 1) != 0) {
                 n++;
             }
-            return 2 * n + (int) (y >> n - 1 & 1);
+            return 2 * n + (int) (y >> (n - 1) & 1);
         }
 
         private void repeatBytes(int d) {

@@ -43,7 +43,10 @@ final class Checks {
         }
     }
 
-    /** Everything that can be seen of an object, so that two states can be held against each other. */
+    /**
+     * Everything that can be seen of an object, so that two states can be held against each other.
+     * Its calls go beyond the 512 that the document promises: the program does not count them.
+     */
     static String sight(SolidFolder x) {
         StringBuilder text = new StringBuilder();
         for (int k = 0; k < x.files(); k++) {

@@ -144,7 +144,8 @@ public final class ReadTest {
         reads("input is none", sealed(changed(header, 6, 2), stream), 2);
         reads("input is itself", sealed(changed(header, 6, 0), stream), 3);
         reads("seven files", sealed(changed(header, 8, 7), stream), 2);
-        for (int[] wrong : new int[][] {{0, 1}, {3, 1}, {4, 1}, {2, 0}, {2, 17}, {1, 4}, {1, 36}, {1, 225}, {1, 12}, {3, 30000}}) {
+        int[][] wrongs = {{0, 1}, {3, 1}, {4, 1}, {2, 0}, {2, 17}, {1, 4}, {1, 36}, {1, 225}, {1, 12}, {3, 30000}};
+        for (int[] wrong : wrongs) {
             plan.coders.set(0, wrong);
             plan.sources = wrong[0] == 4 ? bytes(1, 1) : bytes(1);
             reads("kind " + wrong[0] + ", parameter " + wrong[1], plan, 2);
@@ -279,6 +280,7 @@ public final class ReadTest {
         reads("3 comes before 4", wrongBoth, 3);
         wrongBoth.main = 1;
         reads("2 comes before 3", wrongBoth, 2);
+        reads("no streams at all", graph(0, 0, new int[] {0}, 0), 2);
     }
 
     private static void howManyBytes() {
@@ -326,7 +328,8 @@ public final class ReadTest {
         List<Integer> right = Model.pack(file, 93);
         reads("packed", repeated(right, file, 93), 0);
         int last = right.size() - 1;
-        reads("what V is in the end does not matter", repeated(changed(right, last, right.get(last) + 1 & 255), file, 93), 0);
+        List<Integer> other = changed(right, last, (right.get(last) + 1) & 255);
+        reads("what V is in the end does not matter", repeated(other, file, 93), 0);
         reads("a byte lacks", repeated(right.subList(0, last), file, 93), 4);
         List<Integer> longer = new ArrayList<>(right);
         longer.add(0);
