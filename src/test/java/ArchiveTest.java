@@ -2,13 +2,7 @@ import java.util.ArrayList;
 import java.util.List;
 
 /** Promises 9 and 11 to 16: the archive is written, and changed by hand. */
-public final class ArchiveTest {
-    private static final Class<IllegalArgumentException> ARGUMENT = IllegalArgumentException.class;
-    private static final Class<IllegalStateException> STATE = IllegalStateException.class;
-    private static final Class<IndexOutOfBoundsException> INDEX = IndexOutOfBoundsException.class;
-
-    private static final Checks CHECKS = new Checks();
-
+public final class ArchiveTest extends Archives {
     public static void main(String[] args) {
         promise9Bytes();
         promise9Arguments();
@@ -23,19 +17,6 @@ public final class ArchiveTest {
         promise15Cut();
         promise16Seal();
         CHECKS.end();
-    }
-
-    private static SolidFolder withFile(int... bytes) {
-        SolidFolder x = new SolidFolder();
-        x.begin('f');
-        for (int b : bytes) {
-            x.give(b, 1);
-        }
-        return x;
-    }
-
-    private static SolidFolder withText(String text) {
-        return withFile(text.chars().toArray());
     }
 
     private static void promise9Bytes() {
@@ -104,7 +85,7 @@ public final class ArchiveTest {
     }
 
     private static void promise9Graphs() {
-        SolidFolder x = withFile(200, 3, 1);
+        SolidFolder x = withFile(bytes(200, 3, 1));
         String[] due = {
             "01" + "0000" + "01" + "03" + "03" + "01" + "00",
             "02" + "0205" + "0000" + "01" + "03" + "0303" + "0102" + "00",
@@ -134,13 +115,8 @@ public final class ArchiveTest {
         return graph.substring(0, place + 2) + " " + graph.substring(place + 2 + 2 * streams);
     }
 
-    private static String streamOf(SolidFolder x) {
-        String archive = Checks.archive(x);
-        return archive.substring(14 + 2 * Integer.parseInt(archive.substring(12, 14), 16));
-    }
-
-    private static void filtered(int filter, int distance, String due, int... bytes) {
-        SolidFolder x = withFile(bytes);
+    private static void filtered(int filter, int distance, String due, int... file) {
+        SolidFolder x = withFile(bytes(file));
         x.write(0, 0, filter, distance);
         CHECKS.equal("filter " + filter + ", " + distance, streamOf(x), due);
         CHECKS.equal("filter " + filter + ", read", x.read(), 0);
@@ -171,7 +147,7 @@ public final class ArchiveTest {
      * not, as the bytes looked at are those of the files; read looks at others.
      */
     private static void branchThatIsNotUndone() {
-        SolidFolder x = withFile(232, 232, 255, 255, 254, 0);
+        SolidFolder x = withFile(bytes(232, 232, 255, 255, 254, 0));
         x.write(0, 0, 2, 0);
         CHECKS.equal("branch in a branch", streamOf(x), "e8e80500ff00");
         CHECKS.equal("branch in a branch, read", x.read(), 5);

@@ -10,21 +10,42 @@ final class Checks {
 
     private int made = 0;
     private int wrong = 0;
+    private int sentences = 0;
+    private String sentence = "";
+    private int madeBefore = 0;
+
+    /**
+     * The words of the document that the checks from here on are of, and where they stand: a
+     * promise's number or the name of a term. Words without a check are a fault of the test.
+     */
+    void says(String where, String words) {
+        endSentence();
+        sentences++;
+        sentence = where + " says \"" + words + "\": ";
+    }
+
+    private void endSentence() {
+        if (sentences > 0 && made == madeBefore) {
+            wrong++;
+            System.out.println(sentence + "nothing was checked");
+        }
+        madeBefore = made;
+    }
 
     void equal(String what, long got, long due) {
-        made++;
-        if (got != due) {
-            wrong++;
-            System.out.println(what + " answered " + got + ", due is " + due);
-        }
+        equal(what, Long.toString(got), Long.toString(due));
     }
 
     void equal(String what, String got, String due) {
         made++;
         if (!got.equals(due)) {
             wrong++;
-            System.out.println(what + " answered " + got + ", due is " + due);
+            System.out.println(sentence + what + " answered " + got + ", due is " + due);
         }
+    }
+
+    void holds(String what, boolean got) {
+        equal(what, Boolean.toString(got), "true");
     }
 
     /** The class must be the very one: IndexOutOfBounds from an array would be a class of its own. */
@@ -67,15 +88,21 @@ final class Checks {
         return text.toString();
     }
 
+    /** By as few calls as can be. */
     static SolidFolder withArchive(String hex) {
         SolidFolder x = new SolidFolder();
-        for (int k = 0; k < hex.length(); k += 2) {
-            x.put(Integer.parseInt(hex.substring(k, k + 2), 16), 1);
+        for (int k = 0; k < hex.length(); k += 16) {
+            String some = hex.substring(k, Math.min(k + 16, hex.length()));
+            x.put(Long.parseUnsignedLong(some, 16), some.length() / 2);
         }
         return x;
     }
 
     void end() {
+        endSentence();
+        if (sentences > 0) {
+            System.out.println(sentences + " sentences");
+        }
         System.out.println(made - wrong + " of " + made + " answers are as due");
         if (wrong != 0) {
             System.exit(1);

@@ -1,12 +1,5 @@
 /** Promises 1 to 8: the files in memory. */
-public final class FilesTest {
-    private static final Class<IllegalArgumentException> ARGUMENT = IllegalArgumentException.class;
-    private static final Class<IllegalStateException> STATE = IllegalStateException.class;
-    private static final Class<IndexOutOfBoundsException> INDEX = IndexOutOfBoundsException.class;
-    private static final Class<java.util.NoSuchElementException> NONE = java.util.NoSuchElementException.class;
-
-    private static final Checks CHECKS = new Checks();
-
+public final class FilesTest extends Archives {
     public static void main(String[] args) {
         promise1NewObject();
         promise2Begin();

@@ -3,9 +3,7 @@ import java.util.List;
 import java.util.Map;
 
 /** Promise 10: what read() answers for archives that are made by hand, right ones and wrong ones. */
-public final class ReadTest {
-    private static final Checks CHECKS = new Checks();
-
+public final class ReadTest extends Archives {
     public static void main(String[] args) throws Model.WrongBytes {
         front();
         header();
@@ -20,60 +18,6 @@ public final class ReadTest {
         crcs();
         filesStayOrCome();
         CHECKS.end();
-    }
-
-    private static List<Integer> bytes(int... values) {
-        List<Integer> list = new ArrayList<>();
-        for (int v : values) {
-            list.add(v);
-        }
-        return list;
-    }
-
-    private static List<Integer> many(int b, int n) {
-        return new ArrayList<>(java.util.Collections.nCopies(n, b));
-    }
-
-    private static void reads(String what, List<Integer> archive, int due) {
-        SolidFolder x = Checks.withArchive(Model.hex(archive));
-        x.begin('~');
-        x.give(77, 1);
-        String before = Checks.sight(x);
-        CHECKS.equal(what, x.read(), due);
-        if (due != 0) {
-            CHECKS.equal(what + ": all stays", Checks.sight(x), before);
-        }
-    }
-
-    private static void reads(String what, Model.Plan plan, int due) {
-        reads(what, plan.bytes(), due);
-    }
-
-    /** As put together, but for the CRC of the header. */
-    private static List<Integer> sealed(List<Integer> header, List<Integer> streams) {
-        List<Integer> all = bytes(55, 122);
-        all.addAll(Model.four(Model.crc(header)));
-        all.addAll(Model.number(header.size()));
-        all.addAll(header);
-        all.addAll(streams);
-        return all;
-    }
-
-    private static Model.Plan copied(List<Integer> file) {
-        Model.Plan plan = new Model.Plan();
-        plan.coders.add(new int[] {0, 0});
-        plan.gives.add(file.size());
-        plan.streams.add(file);
-        plan.sources.add(1);
-        plan.files.put((int) 'f', file);
-        return plan;
-    }
-
-    private static Model.Plan repeated(List<Integer> stream, List<Integer> file, int properties) {
-        Model.Plan plan = copied(file);
-        plan.coders.set(0, new int[] {1, properties});
-        plan.streams.set(0, stream);
-        return plan;
     }
 
     private static void front() {
@@ -96,12 +40,6 @@ public final class ReadTest {
         reads("header's size in two bytes", twoBytes, 0);
         reads("header's size far too great", changed(right, 6, 255), 1);
         reads("header's size without its second byte", changed(right.subList(0, 7), 6, 128), 1);
-    }
-
-    private static List<Integer> changed(List<Integer> row, int k, int b) {
-        List<Integer> changed = new ArrayList<>(row);
-        changed.set(k, b);
-        return changed;
     }
 
     private static void header() {
@@ -239,22 +177,6 @@ public final class ReadTest {
         reads("no files", none, 0);
     }
 
-    private static Model.Plan graph(int streams, int main, int[] kinds, int... sources) {
-        Model.Plan plan = new Model.Plan();
-        for (int kind : kinds) {
-            plan.coders.add(new int[] {kind, kind == 2 ? 1 : 0});
-            plan.gives.add(0);
-        }
-        for (int s = 0; s < streams; s++) {
-            plan.streams.add(bytes());
-        }
-        for (int source : sources) {
-            plan.sources.add(source);
-        }
-        plan.main = main;
-        return plan;
-    }
-
     private static void graphs() {
         reads("one", graph(1, 0, new int[] {0}, 1), 0);
         reads("two in a row", graph(1, 0, new int[] {0, 3}, 1, 2), 0);
@@ -347,15 +269,6 @@ public final class ReadTest {
         }
     }
 
-    private static List<Integer> packedBytes(List<Integer> file) {
-        Model.Putter out = new Model.Putter();
-        Model.State s = new Model.State(0);
-        for (int i = 0; i < file.size(); i++) {
-            Model.putByte(out, s, file, i);
-        }
-        return out.bytes();
-    }
-
     /**
      * A plain bit halves an odd range, and V stands in what the halves leave out. Whoever does
      * not look there goes on to the end without any other fault, and finds another CRC.
@@ -396,52 +309,6 @@ public final class ReadTest {
             tried++;
         }
         CHECKS.equal("plain bits were tried", tried > 3 ? 1 : 0, 1);
-    }
-
-    private static final class Packed {
-        final List<Integer> file = new ArrayList<>();
-        final Model.Putter out = new Model.Putter();
-        final Model.State s = new Model.State(93);
-
-        Packed byteOf(int b) {
-            file.add(b);
-            Model.putByte(out, s, file, file.size() - 1);
-            return this;
-        }
-
-        Packed match(int length, int d) {
-            Model.putMatch(out, s, file.size(), length, d);
-            return again(length, d);
-        }
-
-        Packed shortOne() {
-            int d = s.r.get(0).intValue();
-            Model.putShort(out, s, file.size());
-            return again(1, d);
-        }
-
-        Packed repeat(int which, int length) {
-            int d = s.r.get(which).intValue();
-            Model.putRepeat(out, s, file.size(), which, length);
-            return again(length, d);
-        }
-
-        private Packed again(int length, int d) {
-            for (int k = 0; k < length; k++) {
-                file.add(d > file.size() ? 0 : file.get(file.size() - d));
-            }
-            return this;
-        }
-
-        void reads(String what, int due) {
-            ReadTest.reads(what, repeated(out.bytes(), file, 93), due);
-        }
-
-        /** The size that the header tells is less than what is given. */
-        void readsShorter(String what, int due) {
-            file.remove(file.size() - 1);
-            ReadTest.reads(what, repeated(out.bytes(), file, 93), due);
-        }
     }
 
     private static void repeats() {
@@ -563,7 +430,7 @@ public final class ReadTest {
         x.begin('a');
         x.begin('b');
         x.fill(9, 4);
-        String before = Checks.sight(x).split(" / ")[0];
+        String before = filesOf(x);
         for (int method = 0; method < 3; method++) {
             for (int filter = 0; filter < 3; filter++) {
                 x.write(method, 93, filter, 2);
@@ -571,7 +438,7 @@ public final class ReadTest {
                 x.give(5, 1);
                 x.begin('d');
                 CHECKS.equal("read", x.read(), 0);
-                CHECKS.equal("read: files", Checks.sight(x).split(" / ")[0], before);
+                CHECKS.equal("read: files", filesOf(x), before);
             }
         }
         x.give(4, 1);
