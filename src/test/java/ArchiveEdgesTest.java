@@ -137,16 +137,6 @@ public final class ArchiveEdgesTest extends Archives {
         }
     }
 
-    private static List<Integer> scattered(int n, int seed) {
-        List<Integer> row = new ArrayList<>();
-        int v = seed * 7919 + 1;
-        for (int k = 0; k < n; k++) {
-            v = v * 1103515245 + 12345;
-            row.add(v >>> 16 & 255);
-        }
-        return row;
-    }
-
     /** The header of an archive up to the number of files, of which it has one. */
     private static String graphOf(SolidFolder x) {
         String archive = archiveOf(x);

@@ -1,6 +1,3 @@
-import java.util.ArrayList;
-import java.util.List;
-
 /** Promises 9 and 11 to 16: the archive is written, and changed by hand. */
 public final class ArchiveTest extends Archives {
     public static void main(String[] args) {
@@ -151,44 +148,6 @@ public final class ArchiveTest extends Archives {
         x.write(0, 0, 2, 0);
         CHECKS.equal("branch in a branch", streamOf(x), "e8e80500ff00");
         CHECKS.equal("branch in a branch, read", x.read(), 5);
-    }
-
-    /** The stream of what is said to come: a byte, a match m (length, distance), s, or r (which, length). */
-    private static String packed(String text, int properties, String... parts) {
-        List<Integer> bytes = new ArrayList<>();
-        text.chars().forEach(bytes::add);
-        Model.Putter out = new Model.Putter();
-        Model.State s = new Model.State(properties);
-        int i = 0;
-        for (String part : parts) {
-            String[] words = part.split(" ");
-            if (words[0].equals("m")) {
-                Model.putMatch(out, s, i, Integer.parseInt(words[1]), Integer.parseInt(words[2]));
-                i += Integer.parseInt(words[1]);
-            } else if (words[0].equals("r")) {
-                Model.putRepeat(out, s, i, Integer.parseInt(words[1]), Integer.parseInt(words[2]));
-                i += Integer.parseInt(words[2]);
-            } else if (words[0].equals("s")) {
-                Model.putShort(out, s, i);
-                i++;
-            } else {
-                for (int k = 0; k < Integer.parseInt(words[1]); k++) {
-                    Model.putByte(out, s, bytes, i);
-                    i++;
-                }
-            }
-        }
-        CHECKS.equal("parts go to the end of " + text, i, text.length());
-        return Model.hex(out.bytes());
-    }
-
-    private static void packs(String text, String... parts) {
-        for (int properties : new int[] {93, 0, 3, 27, 180, 207, 191}) {
-            SolidFolder x = withText(text);
-            x.write(1, properties, 0, 0);
-            CHECKS.equal("packed " + text, streamOf(x), packed(text, properties, parts));
-            CHECKS.equal("packed, read", x.read(), 0);
-        }
     }
 
     private static void promise9Packing() {

@@ -48,6 +48,34 @@ abstract class Archives {
         return row;
     }
 
+    /** n bytes that look like none of a rule. */
+    static List<Integer> scattered(int n, int seed) {
+        List<Integer> row = new ArrayList<>();
+        int v = seed * 7919 + 1;
+        for (int k = 0; k < n; k++) {
+            v = v * 1103515245 + 12345;
+            row.add(v >>> 16 & 255);
+        }
+        return row;
+    }
+
+    /** 140 bytes, and behind them threes of those from 129 on before: matches with plain bits. */
+    static List<Integer> far(int seed) {
+        List<Integer> row = scattered(140, seed);
+        int v = seed * 7919 + 1;
+        for (int k = 0; k < 140; k++) {
+            v = v * 1103515245 + 12345;
+        }
+        while (row.size() <= 197) {
+            v = v * 1103515245 + 12345;
+            int d = 129 + (v >>> 16) % (row.size() - 128);
+            for (int k = 0; k < 3; k++) {
+                row.add(row.get(row.size() - d));
+            }
+        }
+        return row;
+    }
+
     static SolidFolder withFile(List<Integer> file) {
         SolidFolder x = new SolidFolder();
         x.begin('f');
@@ -153,6 +181,44 @@ abstract class Archives {
             packed.byteOf(b);
         }
         return packed.out.bytes();
+    }
+
+    /** The stream of what is said to come: a byte, a match m (length, distance), s, or r (which, length). */
+    static String packed(String text, int properties, String... parts) {
+        List<Integer> bytes = new ArrayList<>();
+        text.chars().forEach(bytes::add);
+        Model.Putter out = new Model.Putter();
+        Model.State s = new Model.State(properties);
+        int i = 0;
+        for (String part : parts) {
+            String[] words = part.split(" ");
+            if (words[0].equals("m")) {
+                Model.putMatch(out, s, i, Integer.parseInt(words[1]), Integer.parseInt(words[2]));
+                i += Integer.parseInt(words[1]);
+            } else if (words[0].equals("r")) {
+                Model.putRepeat(out, s, i, Integer.parseInt(words[1]), Integer.parseInt(words[2]));
+                i += Integer.parseInt(words[2]);
+            } else if (words[0].equals("s")) {
+                Model.putShort(out, s, i);
+                i++;
+            } else {
+                for (int k = 0; k < Integer.parseInt(words[1]); k++) {
+                    Model.putByte(out, s, bytes, i);
+                    i++;
+                }
+            }
+        }
+        CHECKS.equal("parts go to the end of " + text, i, text.length());
+        return Model.hex(out.bytes());
+    }
+
+    static void packs(String text, String... parts) {
+        for (int properties : new int[] {93, 0, 3, 27, 180, 207, 191}) {
+            SolidFolder x = withText(text);
+            x.write(1, properties, 0, 0);
+            CHECKS.equal("packed " + text, streamOf(x), packed(text, properties, parts));
+            CHECKS.equal("packed, read", x.read(), 0);
+        }
     }
 
     /** A stream of repeats that is said part by part, with the file that it gives. */

@@ -40,33 +40,54 @@ final class Model {
         private BigInteger low = BigInteger.ZERO;
         private long range = 4294967295L;
         private int multiplied = 0;
+        private boolean endsMultiplied = false;
+        /** The edges that this stream has come to, so that tests know that they are there. */
+        final Set<String> met = new HashSet<>();
 
         void bit(String context, int bit) {
             long bound = range / 2048 * of(context);
             if (bit == 0) {
                 range = bound;
             } else {
-                low = low.add(BigInteger.valueOf(bound));
+                grow(bound);
                 range -= bound;
             }
             adapt(context, bit);
-            multiply();
+            met.add("chance " + of(context));
+            multiply("bit " + bit);
         }
 
         void plain(int bit) {
             range /= 2;
             if (bit == 1) {
-                low = low.add(BigInteger.valueOf(range));
+                grow(range);
             }
-            multiply();
+            multiply("plain bit");
         }
 
-        private void multiply() {
+        private void grow(long by) {
+            if ((low.longValue() & 0xffffffffL) + by > 0xffffffffL) {
+                met.add("carry through " + low.shiftRight(32).not().getLowestSetBit() / 8);
+            }
+            low = low.add(BigInteger.valueOf(by));
+        }
+
+        private void multiply(String what) {
+            if (range == 1 << 24) {
+                met.add(what + ", range at 2^24");
+            } else if (range == (1 << 24) - 1) {
+                met.add(what + ", range below 2^24");
+            }
+            endsMultiplied = range < 1 << 24;
             while (range < 1 << 24) {
                 range *= 256;
                 low = low.multiply(B256);
                 multiplied++;
             }
+        }
+
+        boolean endsMultiplied() {
+            return endsMultiplied;
         }
 
         /** LOW grows by all of the range but one, and by nothing from then on: no plain bit says that. */
@@ -97,8 +118,17 @@ final class Model {
         }
 
         List<Integer> bytes() {
+            return bytes(0);
+        }
+
+        long range() {
+            return range;
+        }
+
+        /** As if LOW were so much more: what V is in the end. */
+        List<Integer> bytes(long more) {
             List<Integer> bytes = new ArrayList<>();
-            BigInteger rest = low;
+            BigInteger rest = low.add(BigInteger.valueOf(more));
             for (int k = 0; k < multiplied + 5; k++) {
                 bytes.add(0, rest.mod(B256).intValue());
                 rest = rest.divide(B256);
@@ -345,6 +375,10 @@ final class Model {
     }
 
     static List<Integer> pack(List<Integer> bytes, int properties) {
+        return putterOf(bytes, properties).bytes();
+    }
+
+    static Putter putterOf(List<Integer> bytes, int properties) {
         Putter out = new Putter();
         State s = new State(properties);
         int i = 0;
@@ -377,7 +411,7 @@ final class Model {
                 i++;
             }
         }
-        return out.bytes();
+        return out;
     }
 
     static int takeByte(Taker in, State s, List<Integer> bytes, int i) throws WrongBytes {
