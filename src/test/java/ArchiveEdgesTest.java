@@ -184,6 +184,12 @@ public final class ArchiveEdgesTest extends Archives {
                 CHECKS.equal("main", graph.substring(graph.length() - 4), "0001");
             }
         }
+        // Also when an archive was read where it is another one.
+        SolidFolder z = withArchive(graph(1, 3, new int[] {0, 0, 0, 0}, 1, 2, 4, 0).bytes());
+        CHECKS.equal("read", z.read(), 0);
+        z.begin('f');
+        z.write(0, 0, 0, 0);
+        CHECKS.equal("main", graphOf(z), "01" + "0000" + "0100" + "00" + "01" + "0001");
     }
 
     private static void filtered(int filter, int distance, String due, int... file) {

@@ -64,6 +64,13 @@ public final class BitsEdgesTest extends Archives {
         reads("V at the first bound", repeated(bytes(0, 0x7f, 0xff, 0xfc, 0, 0), bytes(255), 0), 4);
         packs("a", "b 1");
         packs("z", "b 1");
+
+        CHECKS.says("BITS", "BOUND is RANGE / 2048 (rounded down) times c.");
+        for (int b = 0; b < 256; b += 5) {
+            Packed packed = new Packed(0).byteOf(b);
+            leastAndGreatest("byte " + b, packed);
+            leastAndGreatest("byte " + b + " behind another", new Packed(0).byteOf(201).byteOf(b));
+        }
     }
 
     private static void chances() {
@@ -131,6 +138,8 @@ public final class BitsEdgesTest extends Archives {
         meets("a carry through one 255", scattered(200, seedWithCarry()), 0, "carry through 1");
         meets("a carry through two", scattered(200, 1490), 0, "carry through 2");
         meets("a carry through three", scattered(200, 209578), 0, "carry through 3");
+        meets("no carry, but nearly", scattered(200, 5351275), 0, "four digits of 255");
+        meets("just a carry", scattered(200, 34113), 0, "carry that leaves 0");
         for (int n = 0; n <= 40; n++) {
             bothWays(n + " bytes", scattered(n, 3), 0);
         }
@@ -170,7 +179,18 @@ public final class BitsEdgesTest extends Archives {
         Packed packed = new Packed(0).bytesOf(file);
         for (long more = 0; more < packed.out.range(); more += packed.out.range() / 16) {
             reads("V is " + more + " then", repeated(packed.out.bytes(more), file, 0), 0);
+            reads("V is " + more + " then, in two coders", twoCoders(packed, more), 0);
         }
+    }
+
+    /** A JOIN of twice the same. */
+    private static Model.Plan twoCoders(Packed packed, long more) {
+        Model.Plan plan = graph(2, 0, new int[] {4, 1, 1}, 1, 2, 3, 4);
+        List<Integer> file = Model.join(packed.file, packed.file);
+        plan.gives = bytes(file.size(), packed.file.size(), packed.file.size());
+        plan.files.put((int) 'f', file);
+        plan.streams = List.of(packed.out.bytes(more), packed.out.bytes(more));
+        return plan;
     }
 
     /** V is the least that there can be behind the last bit, and then the greatest. */
@@ -195,6 +215,15 @@ public final class BitsEdgesTest extends Archives {
             List<Integer> stream = packedBytes(file);
             reads(n + " bytes", repeated(stream, file, 0), 0);
             reads(n + " bytes, one lacks", repeated(shorter(stream), file, 0), 4);
+        }
+        // Where the archive can't have more bytes: a JOIN's first input fills it up.
+        for (int n = 0; n < 5; n++) {
+            Model.Plan plan = graph(2, 0, new int[] {4, 1}, 2, 1, 3);
+            plan.streams = List.of(bytes(), many(0, n));
+            int filler = 1200 - plan.bytes().size() - 1;
+            plan.streams = List.of(many(0, filler), many(0, n));
+            CHECKS.equal("length", plan.bytes().size(), 1200);
+            reads("only " + n + ", which are the last of 1200", plan, 4);
         }
 
         CHECKS.says("BITS", "or if some are left over in the end (behind the last multiplication, too;");
@@ -281,7 +310,13 @@ public final class BitsEdgesTest extends Archives {
 
         CHECKS.says("REPEATS", "p being i modulo 2 to the pb");
         for (int pb = 0; pb <= 4; pb++) {
-            bothWays("pb " + pb, mixture(200, pb), 45 * pb);
+            for (int seed = 0; seed < 8; seed++) {
+                bothWays("pb " + pb, mixture(200, seed), 45 * pb);
+            }
+        }
+        // All that goes by p, with p up to 15: neighbours have nothing in common.
+        for (int seed = 0; seed < 60; seed++) {
+            longParts(seed).reads("parts of all lengths, " + seed, 0);
         }
 
         CHECKS.says("REPEATS", "[of the family (i modulo 2^lp) * 2^lc + the byte before (0 at first) / 2^(8 - lc)]");
@@ -366,6 +401,7 @@ public final class BitsEdgesTest extends Archives {
                 packed.reads(differs + " bits are those of m", 0);
             }
         }
+        thirdTree();
         // In each state from 4 on: byte by byte from the greatest one down.
         for (Packed packed : List.of(
                 new Packed(0).byteOf(5).match(2, 1),
@@ -374,6 +410,22 @@ public final class BitsEdgesTest extends Archives {
                 new Packed(0).byteOf(5).match(2, 1).match(2, 1),
                 new Packed(0).byteOf(5).match(2, 1).shortOne())) {
             packed.bytesOf(bytes(5, 5, 5, 4, 5, 5, 4, 5)).reads("bytes in state after state", 0);
+        }
+    }
+
+    /** The last contexts of a family's trees are those of 254 and 255: families have none in common. */
+    private static void thirdTree() {
+        CHECKS.says("REPEATS", "each bit's context is one of another tree of the family for the bit of m at its place being 0,"
+                + " or of a third one for 1 (with the same number k).");
+        for (int properties : new int[] {0, 1, 2, 3, 9, 18, 27, 19}) {
+            for (int m : new int[] {0, 1, 127, 128, 252, 253, 254, 255}) {
+                Packed packed = new Packed(properties);
+                packed.bytesOf(bytes(m, m, m));
+                for (int n = 0; n < 14; n++) {
+                    packed.match(2, 1).byteOf(n % 3 == 0 ? m : m ^ 1).byteOf(n * 37 & 255).byteOf(m).byteOf(m);
+                }
+                packed.reads("bytes as " + m, 0);
+            }
         }
     }
 
@@ -398,9 +450,32 @@ public final class BitsEdgesTest extends Archives {
         return packed;
     }
 
+    /** Parts of all kinds with pb 4, most of them short, with lengths on both sides of 10 and 18. */
+    private static Packed longParts(int seed) {
+        Packed packed = new Packed(180);
+        List<Integer> numbers = scattered(400, seed);
+        packed.bytesOf(bytes(7, 9, 7));
+        for (int k = 0; packed.file.size() < 170; k += 3) {
+            int length = numbers.get(k) % 2 == 0 ? 2 : 2 + numbers.get(k + 1) % 20;
+            int way = numbers.get(k + 2) % 8;
+            if (way < 3) {
+                packed.match(length, 1 + numbers.get(k + 1) % Math.min(packed.file.size(), 40));
+            } else if (way < 6) {
+                packed.repeat(numbers.get(k + 1) & 3, length);
+            } else if (way == 6) {
+                packed.shortOne();
+            } else {
+                packed.byteOf(numbers.get(k + 1) & 7);
+            }
+        }
+        return packed;
+    }
+
     private static void readsParts(String kinds) {
         for (int seed = 0; seed < 12; seed++) {
-            parts(kinds, seed, seed % 2 == 0 ? 0 : 93).reads("parts of " + kinds + ", " + seed, 0);
+            for (int properties : new int[] {0, 93, 180}) {
+                parts(kinds, seed, properties).reads("parts of " + kinds + ", " + seed, 0);
+            }
         }
     }
 
@@ -421,10 +496,20 @@ public final class BitsEdgesTest extends Archives {
         readsParts("bmmm");
         readsParts("bmsr");
 
+        CHECKS.says("REPEATS", "A SHORT one: 1 [first], 1 [second], 0 [third; state], 0 [fourth; state, p]: one byte as that"
+                + " r0 before.");
+        readsParts("sb");
+        readsParts("smr");
+
         CHECKS.says("REPEATS", "State below 7 becomes 9, others 11.");
         readsParts("bs");
         readsParts("bbbss");
         readsParts("bms");
+
+        CHECKS.says("REPEATS", "A REPEAT of r0: 1, 1, 0, 1 [as these]; of r1: 1, 1, 1 [third], 0 [fifth; state]; of r2: 1, 1,"
+                + " 1, 1 [fifth], 0 [sixth; state]; of r3: 1, 1, 1, 1, 1 [sixth]; then its length.");
+        readsParts("rb");
+        readsParts("rsm");
 
         CHECKS.says("REPEATS", "State below 7 becomes 8, others 11.");
         readsParts("br");
@@ -487,6 +572,14 @@ public final class BitsEdgesTest extends Archives {
             new Packed(0).bytesOf(scattered(192, 9)).match(2, d).match(3, d).byteOf(9).reads("distance " + d, 0);
         }
         new Packed(0).bytesOf(scattered(198, 9)).match(2, 198).reads("distance 198", 0);
+        // Distances of the last slot with a tree of its own, and of those behind it, by turns.
+        for (int seed = 0; seed < 40; seed++) {
+            Packed packed = new Packed(0).bytesOf(scattered(150, seed));
+            for (int k = 0; k < 12; k++) {
+                packed.match(2, 97 + (seed * 5 + k * 7) % 32).match(2, 129 + (seed * 3 + k * 11) % 20);
+            }
+            packed.reads("distances from 97 on", 0);
+        }
         // Of bytes that are all different only the last three can come again, from just there.
         for (int d = 3; d <= 197; d++) {
             List<Integer> file = different(d);

@@ -421,6 +421,19 @@ public final class HeaderEdgesTest extends Archives {
     }
 
     private static void wrong2() {
+        CHECKS.says("WRONG", "2, when the header is not as said: numbers out of their bounds");
+        int[] least = {1, 0, 0, 1, 1, 1, 0, 0, 1};
+        int[] most = {1, 0, 0, 1, 1, 1, 1, 0, 1};
+        for (int place = CODERS; place <= FILES; place++) {
+            // Other kinds need other parameters and streams: they are looked at elsewhere.
+            for (int number = place == KIND ? 5 : 0; number <= 700; number++) {
+                boolean within = number >= least[place] && number <= most[place];
+                // The coder itself is within the bounds, but it can't be its own input.
+                boolean itself = place == INPUT && number == 0;
+                readsWith("the number at " + place + ", ", place, number, !within ? 2 : itself ? 3 : 0);
+            }
+        }
+
         CHECKS.says("WRONG", "other bytes of packed streams than follow it");
         reads("one less", sealed(HEADER, bytes()), 2);
         reads("one more", sealed(HEADER, bytes(77, 0)), 2);
@@ -654,21 +667,47 @@ public final class HeaderEdgesTest extends Archives {
         return (wrongs & 1) == 0 ? all : changed(all, 5, all.get(5) ^ 1);
     }
 
-    /** What a read that failed has learnt of is nowhere to be seen: the next ones tell. */
+    /** What one read has learnt is nowhere to be seen in the next one, whatever both are. */
     private static void readAfterRead() {
-        SolidFolder x = withFile(bytes(1, 2, 3));
-        String before = filesOf(x);
-        for (int wrongs = 1; wrongs < 32; wrongs++) {
-            x.cut(0);
-            for (int b : withWrongs(wrongs)) {
-                x.put(b, 1);
+        List<List<Integer>> archives = archivesOfAllKinds();
+        for (List<Integer> first : archives) {
+            for (List<Integer> second : archives) {
+                SolidFolder x = withFile(bytes(1, 2, 3));
+                Model m = new Model();
+                m.begin('f');
+                m.give(0x010203, 3);
+                for (List<Integer> archive : List.of(first, second, second, first)) {
+                    replaceArchive(x, archive);
+                    m.archive = new ArrayList<>(archive);
+                    CHECKS.equal("read behind read", Checks.outcome(x::read), Integer.toString(m.read()));
+                    CHECKS.equal("all behind it", Checks.sight(x), m.sight());
+                }
             }
-            CHECKS.equal("read", x.read(), 1 + Integer.numberOfTrailingZeros(wrongs));
-            CHECKS.equal("they stay", filesOf(x), before);
         }
-        x.write(0, 0, 0, 0);
-        x.remove('f');
-        CHECKS.equal("read what is right", x.read(), 0);
-        CHECKS.equal("files", filesOf(x), before);
+    }
+
+    private static void replaceArchive(SolidFolder x, List<Integer> archive) {
+        x.cut(0);
+        for (int b : archive) {
+            x.put(b, 1);
+        }
+    }
+
+    private static List<List<Integer>> archivesOfAllKinds() {
+        List<List<Integer>> archives = new ArrayList<>();
+        for (int wrongs = 0; wrongs < 32; wrongs += wrongs == 0 ? 1 : wrongs) {
+            archives.add(withWrongs(wrongs));
+        }
+        archives.add(sealed(HEADER, ONE));
+        archives.add(sealed(changed(HEADER, CODERS, 0), ONE));
+        archives.add(sealed(changed(HEADER, NAME, 32), ONE));
+        archives.add(sealed(HEADER.subList(0, 4), ONE));
+        archives.add(graph(1, 3, new int[] {0, 0, 0, 0}, 1, 2, 4, 0).bytes());
+        Packed packed = new Packed(0).bytesOf(bytes(9, 8)).match(2, 1);
+        archives.add(repeated(packed.out.bytes(packed.out.range() - 1), packed.file, 0).bytes());
+        archives.add(repeated(bytes(0, 255, 255, 255, 255), bytes(), 0).bytes());
+        archives.add(repeated(many(255, 9), bytes(1), 0).bytes());
+        archives.add(new Packed().byteOf(5).match(2, 7).plan().bytes());
+        return archives;
     }
 }

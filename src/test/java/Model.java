@@ -68,8 +68,12 @@ final class Model {
         private void grow(long by) {
             if ((low.longValue() & 0xffffffffL) + by > 0xffffffffL) {
                 met.add("carry through " + low.shiftRight(32).not().getLowestSetBit() / 8);
+                met.add((low.longValue() & 0xffffffffL) + by == 0x100000000L ? "carry that leaves 0" : "carry");
             }
             low = low.add(BigInteger.valueOf(by));
+            if (low.intValue() == -1) {
+                met.add("four digits of 255");
+            }
         }
 
         private void multiply(String what) {
