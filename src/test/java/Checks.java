@@ -8,28 +8,38 @@ final class Checks {
         void run();
     }
 
+    interface Test {
+        void run() throws Exception;
+    }
+
     private int made = 0;
     private int wrong = 0;
     private int sentences = 0;
     private String sentence = "";
-    private int madeBefore = 0;
 
     /**
-     * The words of the document that the checks from here on are of, and where they stand: a
-     * promise's number or the name of a term. Words without a check are a fault of the test.
+     * A test of words of the document, and where they stand: a promise's number or the name of a
+     * term. It is a fault of the test if it checks nothing; if it throws, others go on.
      */
-    void says(String where, String words) {
-        endSentence();
+    void says(String where, String words, Test test) {
         sentences++;
         sentence = where + " says \"" + words + "\": ";
+        int madeBefore = made;
+        try {
+            test.run();
+        } catch (Exception e) {
+            fault("threw " + e);
+        }
+        if (made == madeBefore) {
+            fault("nothing was checked");
+        }
+        sentence = "";
     }
 
-    private void endSentence() {
-        if (sentences > 0 && made == madeBefore) {
-            wrong++;
-            System.out.println(sentence + "nothing was checked");
-        }
-        madeBefore = made;
+    private void fault(String what) {
+        made++;
+        wrong++;
+        System.out.println(sentence + what);
     }
 
     void equal(String what, long got, long due) {
@@ -37,10 +47,10 @@ final class Checks {
     }
 
     void equal(String what, String got, String due) {
-        made++;
-        if (!got.equals(due)) {
-            wrong++;
-            System.out.println(sentence + what + " answered " + got + ", due is " + due);
+        if (got.equals(due)) {
+            made++;
+        } else {
+            fault(what + " answered " + got + ", due is " + due);
         }
     }
 
@@ -99,7 +109,6 @@ final class Checks {
     }
 
     void end() {
-        endSentence();
         if (sentences > 0) {
             System.out.println(sentences + " sentences");
         }
