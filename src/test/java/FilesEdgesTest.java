@@ -210,6 +210,9 @@ public final class FilesEdgesTest extends Archives {
             x.remove('^');
             x.begin('^');
             CHECKS.equal("one of a name that was has no bytes, either", x.about(5, true), 0);
+            SolidFolder full = withFile(different(200));
+            CHECKS.equal("begin behind 200 bytes", outcome(() -> full.begin('g')), "2");
+            CHECKS.equal("they stay", filesOf(full), "f200(" + Model.hex(different(200)) + ")g0()");
         });
 
         CHECKS.says("Promise 2", "IllegalArgumentException: name is not 33 .. 126", () -> {
