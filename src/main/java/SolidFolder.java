@@ -602,8 +602,8 @@ public final class SolidFolder {
         final int[][] given = new int[MOST_CODERS][MOST_GIVEN];
         private final Repeats repeats = new Repeats();
         private final int[] chances = new int[Repeats.CONTEXTS];
-        private final BitPutter putter = new BitPutter(chances);
-        private final BitTaker taker = new BitTaker(chances);
+        private final BitPutter putter = new BitPutter();
+        private final BitTaker taker = new BitTaker();
         // Where the two inputs of the coder at work stand.
         private final Input one = new Input();
         private final Input two = new Input();
@@ -617,7 +617,7 @@ public final class SolidFolder {
                 int parameter = graph.parameters[coder];
                 find(one, graph, graph.sources[2 * coder], archive, streamsFrom);
                 if (graph.kinds[coder] == REPEATS) {
-                    taker.start(one.bytes, one.from, one.size);
+                    taker.start(chances, one.bytes, one.from, one.size);
                     repeats.codeAll(taker, out, size, parameter);
                     right = taker.isDone();
                 } else if (graph.kinds[coder] == JOIN) {
@@ -688,7 +688,7 @@ public final class SolidFolder {
                 } else {
                     int before = streams.size;
                     if (kind == REPEATS) {
-                        putter.start();
+                        putter.start(chances);
                         repeats.codeAll(putter, row, size, parameter);
                         putter.finish(streams);
                     } else {
@@ -758,20 +758,21 @@ public final class SolidFolder {
         static final int FIRST_CHANCE = 1024;
 
         final boolean puts;
-        final int[] chances;
+        // One row for both: bits are put or taken, never both at once.
+        int[] chances = new int[0];
         long range;
         boolean wrong;
 
-        BitCoder(boolean puts, int[] chances) {
+        BitCoder(boolean puts) {
             this.puts = puts;
-            this.chances = chances;
         }
 
         abstract int code(int context, int bit);
 
         abstract int plain(int bit);
 
-        final void restart() {
+        final void restart(int[] row) {
+            chances = row;
             Arrays.fill(chances, FIRST_CHANCE);
             range = FULL_RANGE;
             wrong = false;
@@ -808,12 +809,12 @@ public final class SolidFolder {
         private int count;
         private long low;
 
-        BitPutter(int[] chances) {
-            super(true, chances);
+        BitPutter() {
+            super(true);
         }
 
-        void start() {
-            restart();
+        void start(int[] chancesRow) {
+            restart(chancesRow);
             low = 0;
             digits[0] = 0;
             count = 1;
@@ -881,12 +882,12 @@ public final class SolidFolder {
         private int end;
         private long value;
 
-        BitTaker(int[] chances) {
-            super(false, chances);
+        BitTaker() {
+            super(false);
         }
 
-        void start(int[] row, int from, int size) {
-            restart();
+        void start(int[] chancesRow, int[] row, int from, int size) {
+            restart(chancesRow);
             bytes = row;
             place = from;
             end = Math.min(from + size, row.length);
